@@ -1,0 +1,116 @@
+/** Brings letters on their way, so that tests can say what they mean. */
+final class Post {
+    static final int LOCK = 0;
+    static final int GRANT = 1;
+    static final int PREPARE = 2;
+    static final int PREPARED = 3;
+    static final int COMMIT = 4;
+    static final int ABORT = 5;
+    static final int ASK = 6;
+
+    private Post() {
+    }
+
+    /** The place of the first such letter; -1 for none. */
+    static int find(NoticeStations x, int kind, int from, int to) {
+        for (int i = 0; i < x.letters(); i++) {
+            if (x.letter(i, 0) == kind && x.letter(i, 1) == from && x.letter(i, 2) == to) {
+                return i;
+            }
+        }
+        return -1;
+    }
+
+    static void deliver(NoticeStations x, int kind, int from, int to) {
+        x.deliver(find(x, kind, from, to));
+    }
+
+    static void loseAll(NoticeStations x) {
+        while (x.letters() > 0) {
+            x.lose(0);
+        }
+    }
+
+    /** The members (1 << station each) grant the open write of the writer. */
+    static void grant(NoticeStations x, int writer, int members) {
+        for (int s = 0; s < 5; s++) {
+            if (s != writer && (members & 1 << s) != 0) {
+                deliver(x, LOCK, writer, s);
+                deliver(x, GRANT, s, writer);
+            }
+        }
+    }
+
+    static void prepare(NoticeStations x, int writer, int members) {
+        for (int s = 0; s < 5; s++) {
+            if (s != writer && (members & 1 << s) != 0) {
+                deliver(x, PREPARE, writer, s);
+            }
+        }
+    }
+
+    static void prepared(NoticeStations x, int writer, int members) {
+        for (int s = 0; s < 5; s++) {
+            if (s != writer && (members & 1 << s) != 0) {
+                deliver(x, PREPARED, s, writer);
+            }
+        }
+    }
+
+    static void commit(NoticeStations x, int writer, int members) {
+        for (int s = 0; s < 5; s++) {
+            if (s != writer && (members & 1 << s) != 0) {
+                deliver(x, COMMIT, writer, s);
+            }
+        }
+    }
+
+    /** All of an open write from its beginning on; no letter is left. */
+    static void finish(NoticeStations x, int writer, int members) {
+        grant(x, writer, members);
+        x.decide(writer);
+        prepare(x, writer, members);
+        prepared(x, writer, members);
+        commit(x, writer, members);
+        loseAll(x);
+    }
+
+    static int notice(NoticeStations x, int writer, int members, int area, int from, int to) {
+        int number = x.write(writer, area, from, to);
+        finish(x, writer, members);
+        return number;
+    }
+
+    static int withdrawal(NoticeStations x, int writer, int members, int k) {
+        int number = x.withdraw(writer, k);
+        finish(x, writer, members);
+        return number;
+    }
+
+    /** An object whose station 0 wrote that many notices alone, after one with 1 and 2. */
+    static NoticeStations written(int entries) {
+        NoticeStations x = new NoticeStations();
+        int[] members = {7, 3, 1};
+        for (int k = 0; k < entries; k++) {
+            notice(x, 0, members[k < 3 ? k : 2], k % 4, k, 90);
+        }
+        return x;
+    }
+
+    /** An object in which each of the members but 0 is prepared for write 5 of station 0. */
+    static NoticeStations inDoubt(int members) {
+        NoticeStations x = new NoticeStations();
+        x.write(0, 1, 2, 3);
+        grant(x, 0, members);
+        x.decide(0);
+        prepare(x, 0, members);
+        return x;
+    }
+
+    /** So many letters lie there then: the first one again and again. */
+    static void fill(NoticeStations x, int letters) {
+        while (x.letters() < letters) {
+            x.twin(0);
+        }
+    }
+}
