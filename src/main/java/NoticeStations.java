@@ -393,16 +393,18 @@ public final class NoticeStations {
 
     /** The most letters that taking this one may send. */
     private static int answersTo(Letter letter, Station receiver) {
-        OpenWrite open = receiver.open;
-        if (letter.kind == PREPARED && isOfPreparingWrite(letter, open)
+        OpenWrite open = openWriteFor(letter, receiver);
+        if (letter.kind == PREPARED && open != null && !open.isCollecting()
                 && open.awaits(letter.from) && open.awaited() == 1) {
             return open.groupSize() - 1;
         }
         return 1;
     }
 
-    private static boolean isOfPreparingWrite(Letter letter, OpenWrite open) {
-        return open != null && open.number == letter.number && !open.isCollecting();
+    /** The receiver's open write, if it is the one that the letter is for; otherwise null. */
+    private static OpenWrite openWriteFor(Letter letter, Station receiver) {
+        OpenWrite open = receiver.open;
+        return open != null && open.number == letter.number ? open : null;
     }
 
     private void take(Letter letter, Station receiver) {
@@ -441,9 +443,8 @@ public final class NoticeStations {
     }
 
     private void takeGrant(Letter letter, Station receiver) {
-        OpenWrite open = receiver.open;
-        if (open != null && open.number == letter.number && open.isCollecting()
-                && open.granted[letter.from] == null) {
+        OpenWrite open = openWriteFor(letter, receiver);
+        if (open != null && open.isCollecting() && open.granted[letter.from] == null) {
             open.granted[letter.from] = letter.standing;
         }
     }
@@ -460,8 +461,8 @@ public final class NoticeStations {
     }
 
     private void takePrepared(Letter letter, Station receiver) {
-        OpenWrite open = receiver.open;
-        if (isOfPreparingWrite(letter, open) && open.isOfGroup(letter.from)) {
+        OpenWrite open = openWriteFor(letter, receiver);
+        if (open != null && !open.isCollecting() && open.isOfGroup(letter.from)) {
             open.prepared[letter.from] = true;
             commitIfAllPrepared(receiver, open);
         }

@@ -93,7 +93,8 @@ public final class LettersTest {
         due.isThrown("13 another piece", WRONG_STATE, x, () -> x.deliver(3));
         due.is("13 kind", x.deliver(2), Post.LOCK);
         due.is("13 out of the row, the answer behind the last", Sight.letters(x),
-                "0 from 0 to 1 for 5, 0 from 0 to 2 for 5, 0 from 0 to 4 for 5, 1 from 3 to 0 for 5");
+                "0 from 0 to 1 for 5, 0 from 0 to 2 for 5, 0 from 0 to 4 for 5, "
+                        + "1 from 3 to 0 for 5");
         x.stop(3);
         due.is("13 the sender may be stopped", x.deliver(3), Post.GRANT);
     }
@@ -167,11 +168,7 @@ public final class LettersTest {
         x.unlock(1);
         x.unlock(2);
         x.write(0, 1, 1, 1);
-        Post.grant(x, 0, 6);
-        x.decide(0);
-        Post.prepare(x, 0, 6);
-        Post.prepared(x, 0, 6);
-        Post.commit(x, 0, 6);
+        Post.carryThrough(x, 0, 6);
         due.is("GRANT 1 has an entry now", x.count(1), 1);
         Post.deliver(x, Post.GRANT, 1, 4);
         Post.deliver(x, Post.GRANT, 2, 4);
@@ -190,11 +187,7 @@ public final class LettersTest {
         x.unlock(1);
         x.unlock(2);
         x.write(0, 1, 1, 1);
-        Post.grant(x, 0, 6);
-        x.decide(0);
-        Post.prepare(x, 0, 6);
-        Post.prepared(x, 0, 6);
-        Post.commit(x, 0, 6);
+        Post.carryThrough(x, 0, 6);
         Post.deliver(x, Post.LOCK, 4, 1);
         Post.deliver(x, Post.GRANT, 1, 4);
         due.is("GRANT 1 holds more now, but granted before", x.decide(4), true);
@@ -227,17 +220,33 @@ public final class LettersTest {
         x.unlock(1);
         x.unlock(2);
         x.write(0, 1, 1, 1);
-        Post.grant(x, 0, 6);
-        x.decide(0);
-        Post.prepare(x, 0, 6);
-        Post.prepared(x, 0, 6);
-        Post.commit(x, 0, 6);
+        Post.carryThrough(x, 0, 6);
         x.decide(4);
         Post.deliver(x, Post.LOCK, 4, 1);
         due.is("PREPARE it is locked", x.about(1, 4), 9);
         Post.deliver(x, Post.PREPARE, 4, 1);
         due.is("PREPARE not shorter", Sight.about(x, 1), "3 0 0 -1 9 -1 1");
         due.is("PREPARE no answer", Post.find(x, Post.PREPARED, 1, 4), -1);
+    }
+
+    /** Station 1 stored the letter's book already; LOCK and PREPARE come once more. */
+    private static void kind2PrepareOfWhatIsStored() {
+        NoticeStations x = new NoticeStations();
+        x.write(0, 1, 2, 3);
+        x.twin(Post.find(x, Post.LOCK, 0, 1));
+        Post.grant(x, 0, 6);
+        x.decide(0);
+        x.twin(Post.find(x, Post.PREPARE, 0, 1));
+        Post.prepare(x, 0, 6);
+        Post.prepared(x, 0, 6);
+        Post.commit(x, 0, 6);
+        Post.deliver(x, Post.LOCK, 0, 1);
+        due.is("PREPARE it is locked", x.about(1, 4), 5);
+        Post.deliver(x, Post.GRANT, 1, 0);
+        due.is("GRANT without an open write", Sight.about(x, 0), "3 0 1 -1 -1 -1 1");
+        Post.deliver(x, Post.PREPARE, 0, 1);
+        due.is("PREPARE the same book", Sight.about(x, 1), "3 0 0 -1 5 -1 1");
+        due.is("PREPARE no answer", Post.find(x, Post.PREPARED, 1, 0), -1);
     }
 
     private static void kind3Prepared() {
@@ -253,11 +262,26 @@ public final class LettersTest {
                 Sight.letter(x, x.letters() - 2) + ", " + Sight.letter(x, x.letters() - 1),
                 "4 from 0 to 1 for 5, 4 from 0 to 2 for 5");
 
-        NoticeStations y = Post.inDoubt(7);
+        NoticeStations y = Post.inDoubt(15);
         y.giveUp(0);
+        Post.deliver(y, Post.PREPARED, 1, 0);
+        due.is("PREPARED without an open write", Sight.about(y, 0), "5 0 1 -1 -1 -1 1");
         y.write(0, 0, 0, 0);
-        Post.prepared(y, 0, 6);
+        Post.deliver(y, Post.PREPARED, 2, 0);
         due.is("PREPARED of another number, and it collects", Sight.about(y, 0),
+                "5 0 2 -1 10 10 1");
+        Post.deliver(y, Post.ABORT, 0, 2);
+        Post.deliver(y, Post.ABORT, 0, 3);
+        y.lose(Post.find(y, Post.LOCK, 0, 3));
+        y.lose(Post.find(y, Post.LOCK, 0, 4));
+        y.resend(0);
+        y.lose(Post.find(y, Post.LOCK, 0, 2));
+        Post.grant(y, 0, 12);
+        y.decide(0);
+        Post.deliver(y, Post.PREPARE, 0, 2);
+        Post.deliver(y, Post.PREPARED, 2, 0);
+        Post.deliver(y, Post.PREPARED, 3, 0);
+        due.is("PREPARED of another number, and it prepares", Sight.about(y, 0),
                 "5 0 2 -1 10 10 1");
     }
 
@@ -490,6 +514,7 @@ public final class LettersTest {
         kind1FirstGrantCounts();
         kind2Prepare();
         kind2PrepareNotShorter();
+        kind2PrepareOfWhatIsStored();
         kind3Prepared();
         kind3PreparedWithManyLetters();
         kind4Commit();

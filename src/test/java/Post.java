@@ -65,13 +65,18 @@ final class Post {
         }
     }
 
-    /** All of an open write from its beginning on; no letter is left. */
-    static void finish(NoticeStations x, int writer, int members) {
+    /** All of an open write from its beginning on; other letters stay. */
+    static void carryThrough(NoticeStations x, int writer, int members) {
         grant(x, writer, members);
         x.decide(writer);
         prepare(x, writer, members);
         prepared(x, writer, members);
         commit(x, writer, members);
+    }
+
+    /** The same, and no letter is left. */
+    static void finish(NoticeStations x, int writer, int members) {
+        carryThrough(x, writer, members);
         loseAll(x);
     }
 

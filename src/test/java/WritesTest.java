@@ -82,13 +82,23 @@ public final class WritesTest {
         due.is("2 the GRANT goes back that way", x.deliver(3), 1);
         x.cable(2, 1, false);
         due.isThrown("2 torn in the middle", WRONG_STATE, x, () -> x.deliver(2));
+        NoticeStations y = new NoticeStations();
+        y.write(4, 0, 0, 0);
+        for (int s = 0; s < 5; s++) {
+            for (int t = s + 2; t < 5; t++) {
+                y.cable(s, t, false);
+            }
+        }
+        due.is("2 all the way down", y.deliver(0), 0);
+        due.is("2 all the way up", y.deliver(3), 1);
     }
 
     private static void promise3Write() {
         NoticeStations x = new NoticeStations();
         due.is("3 number", x.write(2, 3, 99, 98), 7);
         due.is("3 letters", Sight.letters(x),
-                "0 from 2 to 0 for 7, 0 from 2 to 1 for 7, 0 from 2 to 3 for 7, 0 from 2 to 4 for 7");
+                "0 from 2 to 0 for 7, 0 from 2 to 1 for 7, "
+                        + "0 from 2 to 3 for 7, 0 from 2 to 4 for 7");
         due.is("3 the writer", Sight.about(x, 2), "5 0 1 -1 7 7 1");
         due.is("3 the others", Sight.about(x, 1), "5 0 0 -1 -1 -1 1");
         due.is("3 nothing is in the book yet", x.count(2), 0);
@@ -147,7 +157,8 @@ public final class WritesTest {
         due.is("4 number", x.withdraw(3, 1), 8);
         due.is("4 the writer", Sight.about(x, 3), "5 0 1 -1 8 8 1");
         due.is("4 letters", Sight.letters(x),
-                "0 from 3 to 0 for 8, 0 from 3 to 1 for 8, 0 from 3 to 2 for 8, 0 from 3 to 4 for 8");
+                "0 from 3 to 0 for 8, 0 from 3 to 1 for 8, "
+                        + "0 from 3 to 2 for 8, 0 from 3 to 4 for 8");
         Post.finish(x, 3, 15);
         due.is("4 the entry", x.entry(0, 2, false), -2);
         due.is("4 its number", x.entry(0, 2, true), 8);
@@ -307,7 +318,8 @@ public final class WritesTest {
         Post.loseAll(x);
         x.giveUp(1);
         due.is("6 letters", Sight.letters(x),
-                "5 from 1 to 0 for 6, 5 from 1 to 2 for 6, 5 from 1 to 3 for 6, 5 from 1 to 4 for 6");
+                "5 from 1 to 0 for 6, 5 from 1 to 2 for 6, "
+                        + "5 from 1 to 3 for 6, 5 from 1 to 4 for 6");
         due.is("6 the station", Sight.about(x, 1), "5 0 1 -1 -1 -1 1");
         due.isThrown("6 not again", WRONG_STATE, x, () -> x.giveUp(1));
         due.isThrown("6 none", WRONG_STATE, x, () -> x.giveUp(0));
@@ -318,7 +330,8 @@ public final class WritesTest {
         Post.loseAll(y);
         y.giveUp(0);
         due.is("6 to each, when it prepares too", Sight.letters(y),
-                "5 from 0 to 1 for 5, 5 from 0 to 2 for 5, 5 from 0 to 3 for 5, 5 from 0 to 4 for 5");
+                "5 from 0 to 1 for 5, 5 from 0 to 2 for 5, "
+                        + "5 from 0 to 3 for 5, 5 from 0 to 4 for 5");
         due.is("6 the station", Sight.about(y, 0), "5 0 1 -1 -1 -1 1");
         due.is("6 nothing is stored", y.count(0), 0);
         NoticeStations z = new NoticeStations();
