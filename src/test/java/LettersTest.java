@@ -178,8 +178,8 @@ public final class LettersTest {
         due.is("PREPARE no answer", Post.find(x, Post.PREPARED, 1, 4), -1);
     }
 
-    /** A second GRANT does not change what the first one told. */
-    private static void kind1FirstGrantCounts() {
+    /** Stations 1 and 2 granted write 9 of station 4, then took part in one of station 0. */
+    private static NoticeStations overtaken() {
         NoticeStations x = new NoticeStations();
         x.write(4, 0, 0, 0);
         x.twin(Post.find(x, Post.LOCK, 4, 1));
@@ -188,6 +188,12 @@ public final class LettersTest {
         x.unlock(2);
         x.write(0, 1, 1, 1);
         Post.carryThrough(x, 0, 6);
+        return x;
+    }
+
+    /** A second GRANT does not change what the first one told. */
+    private static void kind1FirstGrantCounts() {
+        NoticeStations x = overtaken();
         Post.deliver(x, Post.LOCK, 4, 1);
         Post.deliver(x, Post.GRANT, 1, 4);
         due.is("GRANT 1 holds more now, but granted before", x.decide(4), true);
@@ -213,14 +219,7 @@ public final class LettersTest {
 
     /** Station 1 has the lock again, but its book is as long as the letter's. */
     private static void kind2PrepareNotShorter() {
-        NoticeStations x = new NoticeStations();
-        x.write(4, 0, 0, 0);
-        x.twin(Post.find(x, Post.LOCK, 4, 1));
-        Post.grant(x, 4, 6);
-        x.unlock(1);
-        x.unlock(2);
-        x.write(0, 1, 1, 1);
-        Post.carryThrough(x, 0, 6);
+        NoticeStations x = overtaken();
         x.decide(4);
         Post.deliver(x, Post.LOCK, 4, 1);
         due.is("PREPARE it is locked", x.about(1, 4), 9);
