@@ -11,7 +11,7 @@ public final class BooksTest {
     private static final Due due = new Due("BooksTest");
 
     private static void promise17Count() {
-        NoticeStations x = Post.written(2);
+        Stations x = Post.written(2);
         due.is("17 both", x.count(0), 2);
         due.is("17 both", x.count(1), 2);
         due.is("17 the first", x.count(2), 1);
@@ -20,12 +20,12 @@ public final class BooksTest {
         due.is("17 of a stopped one", x.count(0), 2);
         due.is("17 full", Post.written(16).count(0), 16);
         for (int no : NO_STATIONS) {
-            due.isThrown("17 count at " + no, NO_SUCH_INDEX, x, () -> x.count(no));
+            due.isThrown("17 count at " + no, NO_SUCH_INDEX, x, it -> it.count(no));
         }
     }
 
     private static void promise18Entry() {
-        NoticeStations x = new NoticeStations();
+        Stations x = new Stations();
         Post.notice(x, 1, 31, 3, 99, 99);
         Post.notice(x, 2, 31, 0, 0, 0);
         Post.withdrawal(x, 0, 31, 0);
@@ -39,20 +39,20 @@ public final class BooksTest {
         due.is("18 of a stopped one", x.entry(2, 2, true), 5);
         for (int k : new int[] {-1, 3, 16, Integer.MIN_VALUE, Integer.MAX_VALUE}) {
             due.isThrown("18 no entry " + k, NoSuchElementException.class, x,
-                    () -> x.entry(0, k, false));
+                    it -> it.entry(0, k, false));
             due.isThrown("18 no number " + k, NoSuchElementException.class, x,
-                    () -> x.entry(0, k, true));
+                    it -> it.entry(0, k, true));
             for (int no : NO_STATIONS) {
-                due.isThrown("18 entry at " + no, NO_SUCH_INDEX, x, () -> x.entry(no, k, true));
+                due.isThrown("18 entry at " + no, NO_SUCH_INDEX, x, it -> it.entry(no, k, true));
             }
         }
-        NoticeStations y = Post.written(16);
+        Stations y = Post.written(16);
         due.is("18 the last", y.entry(0, 15, false), 3 + 4 * 15 + 400 * 90);
         due.is("18 its number", y.entry(0, 15, true), 80);
     }
 
     private static void promise19About() {
-        NoticeStations x = new NoticeStations();
+        Stations x = new Stations();
         Post.notice(x, 4, 28, 0, 0, 0);
         x.write(4, 1, 1, 1);
         Post.grant(x, 4, 12);
@@ -64,20 +64,20 @@ public final class BooksTest {
         due.is("19 locked", Sight.about(x, 3), "3 2 0 -1 14 -1 1");
         due.is("19 stopped", Sight.about(x, 0), "5 0 0 -1 -1 -1 0");
         for (int what : new int[] {-1, 7, Integer.MIN_VALUE, Integer.MAX_VALUE}) {
-            due.isThrown("19 what " + what, WRONG_ARGUMENT, x, () -> x.about(0, what));
+            due.isThrown("19 what " + what, WRONG_ARGUMENT, x, it -> it.about(0, what));
             for (int no : NO_STATIONS) {
-                due.isThrown("19 about " + no, NO_SUCH_INDEX, x, () -> x.about(no, what));
+                due.isThrown("19 about " + no, NO_SUCH_INDEX, x, it -> it.about(no, what));
             }
         }
     }
 
     private static void promise20AllowedOfNew() {
-        NoticeStations x = new NoticeStations();
+        Stations x = new Stations();
         for (int mask = 0; mask < 32; mask++) {
             due.is("20 three of five, " + mask, x.allowed(mask), Integer.bitCount(mask) >= 3);
         }
         for (int mask : new int[] {-1, 32, 63, Integer.MIN_VALUE, Integer.MAX_VALUE}) {
-            due.isThrown("20 mask " + mask, WRONG_ARGUMENT, x, () -> x.allowed(mask));
+            due.isThrown("20 mask " + mask, WRONG_ARGUMENT, x, it -> it.allowed(mask));
         }
         for (int s = 0; s < 5; s++) {
             for (int t = s + 1; t < 5; t++) {
@@ -95,7 +95,7 @@ public final class BooksTest {
     }
 
     private static void promise20AllowedLater() {
-        NoticeStations x = new NoticeStations();
+        Stations x = new Stations();
         Post.notice(x, 1, 30, 0, 0, 0);
         due.is("20 half with the named one", x.allowed(2 + 16), true);
         due.is("20 half without it", x.allowed(4 + 8), false);
@@ -108,13 +108,11 @@ public final class BooksTest {
         due.is("20 the named one of two", x.allowed(2), true);
         due.is("20 and those behind", x.allowed(2 + 8 + 16), true);
         due.is("20 the other one of two", x.allowed(4), false);
-        String before = Sight.of(x);
-        x.allowed(31);
-        due.is("20 changes nothing", Sight.of(x), before);
+        due.changesNothing("20", x, it -> it.allowed(31));
     }
 
     private static void promise20AllowedLockedOrInDoubt() {
-        NoticeStations x = new NoticeStations();
+        Stations x = new Stations();
         x.write(0, 0, 0, 0);
         Post.grant(x, 0, 14);
         x.giveUp(0);
@@ -123,7 +121,7 @@ public final class BooksTest {
         x.unlock(2);
         due.is("20 none", x.allowed(7), true);
         due.is("20 a lock of one more", x.allowed(15), false);
-        NoticeStations y = Post.inDoubt(31);
+        Stations y = Post.inDoubt(31);
         y.giveUp(0);
         due.is("20 in doubt", y.allowed(31), false);
         for (int s = 1; s < 4; s++) {
@@ -135,7 +133,7 @@ public final class BooksTest {
     }
 
     private static void promise21InForce() {
-        NoticeStations x = new NoticeStations();
+        Stations x = new Stations();
         due.is("21 empty", x.inForce(0, 0, 0), 0);
         Post.notice(x, 0, 31, 2, 10, 20);
         Post.notice(x, 0, 31, 2, 20, 30);
@@ -157,7 +155,7 @@ public final class BooksTest {
             due.is("21 area " + area, x.inForce(0, area, 20), 0);
         }
         for (int station : NO_STATIONS) {
-            due.isThrown("21 at " + station, NO_SUCH_INDEX, x, () -> x.inForce(station, 9, -1));
+            due.isThrown("21 at " + station, NO_SUCH_INDEX, x, it -> it.inForce(station, 9, -1));
         }
         Post.withdrawal(x, 1, 15, 0);
         due.is("21 withdrawn", x.inForce(0, 2, 20), 1);
@@ -170,7 +168,7 @@ public final class BooksTest {
 
     /** Two stations withdraw the same notice, as the second one did not know of the first. */
     private static void promise21WithdrawnTwice() {
-        NoticeStations x = new NoticeStations();
+        Stations x = new Stations();
         Post.notice(x, 0, 31, 1, 0, 50);
         Post.withdrawal(x, 0, 7, 0);
         due.is("21 still in force at 4", x.inForce(4, 1, 5), 1);

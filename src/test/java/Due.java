@@ -1,9 +1,7 @@
+import java.util.function.Consumer;
+
 /** Compares what calls answer with what is due, and counts those that differ. */
 final class Due {
-    interface Call {
-        void make();
-    }
-
     private final String test;
     private int asked = 0;
     private int wrong = 0;
@@ -30,10 +28,17 @@ final class Due {
         }
     }
 
-    void isThrown(String what, Class<? extends RuntimeException> want, Call call) {
+    /** The call throws this very exception, and changes nothing; x itself is left alone. */
+    void isThrown(String what, Class<? extends RuntimeException> want, Stations x,
+            Consumer<Stations> call) {
+        changesNothing(what, x, it -> refuse(what, want, it, call));
+    }
+
+    private void refuse(String what, Class<? extends RuntimeException> want, Stations x,
+            Consumer<Stations> call) {
         asked++;
         try {
-            call.make();
+            call.accept(x);
             tell(what + " threw nothing, due is " + want.getSimpleName());
         } catch (RuntimeException e) {
             if (e.getClass() != want) {
@@ -43,12 +48,31 @@ final class Due {
         }
     }
 
-    /** The same, and that the call changed nothing that can be seen. */
-    void isThrown(String what, Class<? extends RuntimeException> want, NoticeStations x,
-            Call call) {
-        String before = Sight.of(x);
-        isThrown(what, want, call);
-        is(what + " (changes nothing)", Sight.of(x), before);
+    /** An object that had the call is as one that did not; x itself is left alone. */
+    void changesNothing(String what, Stations x, Consumer<Stations> call) {
+        isAsIf(what + " (changes nothing)", x, call, it -> { });
+    }
+
+    /** The letter has no effect: it is gone, as if it were lost; x itself is left alone. */
+    void doesNothing(String what, Stations x, int kind, int from, int to) {
+        int i = Post.find(x, kind, from, to);
+        isAsIf(what + " (does nothing)", x, it -> is(what, it.deliver(i), kind),
+                it -> it.lose(i));
+    }
+
+    /** The one call leaves an object as the other does, now and when it is used on. */
+    private void isAsIf(String what, Stations x, Consumer<Stations> one,
+            Consumer<Stations> other) {
+        Stations seen = x.again();
+        one.accept(seen);
+        Stations seenToo = x.again();
+        other.accept(seenToo);
+        is(what, Sight.of(seen), Sight.of(seenToo));
+        Stations used = x.again();
+        one.accept(used);
+        Stations usedToo = x.again();
+        other.accept(usedToo);
+        is(what + ", later", Sight.later(used), Sight.later(usedToo));
     }
 
     void tell(String fault) {

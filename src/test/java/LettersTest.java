@@ -11,7 +11,7 @@ public final class LettersTest {
     private static final Due due = new Due("LettersTest");
 
     private static void promise10Stop() {
-        NoticeStations x = new NoticeStations();
+        Stations x = new Stations();
         Post.notice(x, 0, 7, 1, 2, 3);
         x.write(0, 0, 0, 0);
         Post.deliver(x, Post.LOCK, 0, 1);
@@ -25,9 +25,9 @@ public final class LettersTest {
         due.is("10 the book stays", Sight.book(x, 0), " 1209#5");
         due.is("10 letters stay", Sight.letters(x), letters);
         for (int no : NO_STATIONS) {
-            due.isThrown("10 stop " + no, NO_SUCH_INDEX, x, () -> x.stop(no));
+            due.isThrown("10 stop " + no, NO_SUCH_INDEX, x, it -> it.stop(no));
         }
-        NoticeStations y = Post.inDoubt(7);
+        Stations y = Post.inDoubt(7);
         y.stop(1);
         due.is("10 in doubt all the same", Sight.about(y, 1), "5 0 0 5 -1 -1 0");
         y.start(1);
@@ -38,7 +38,7 @@ public final class LettersTest {
     }
 
     private static void promise11Start() {
-        NoticeStations x = new NoticeStations();
+        Stations x = new Stations();
         due.is("11 was up", x.start(3), false);
         due.is("11 is up", x.about(3, 6), 1);
         x.write(3, 0, 0, 0);
@@ -57,16 +57,16 @@ public final class LettersTest {
         due.is("11 one that is up", x.start(0), false);
         due.is("11 it is without lock too", Sight.about(x, 0), "5 0 0 -1 -1 -1 1");
         for (int no : NO_STATIONS) {
-            due.isThrown("11 start " + no, NO_SUCH_INDEX, x, () -> x.start(no));
+            due.isThrown("11 start " + no, NO_SUCH_INDEX, x, it -> it.start(no));
         }
-        NoticeStations y = Post.inDoubt(7);
+        Stations y = Post.inDoubt(7);
         y.stop(2);
         y.start(2);
         due.is("11 in doubt all the same", Sight.about(y, 2), "5 0 0 5 -1 -1 1");
     }
 
     private static void promise12Letters() {
-        NoticeStations x = new NoticeStations();
+        Stations x = new Stations();
         due.is("12 none", x.letters(), 0);
         x.write(0, 0, 0, 0);
         due.is("12 four", x.letters(), 4);
@@ -77,20 +77,20 @@ public final class LettersTest {
     }
 
     private static void promise13Deliver() {
-        NoticeStations x = new NoticeStations();
+        Stations x = new Stations();
         for (int i : new int[] {0, -1, 40, Integer.MIN_VALUE, Integer.MAX_VALUE}) {
-            due.isThrown("13 no letter " + i, NO_SUCH_INDEX, x, () -> x.deliver(i));
+            due.isThrown("13 no letter " + i, NO_SUCH_INDEX, x, it -> it.deliver(i));
         }
         x.write(0, 0, 0, 0);
-        due.isThrown("13 no letter 4", NO_SUCH_INDEX, x, () -> x.deliver(4));
+        due.isThrown("13 no letter 4", NO_SUCH_INDEX, x, it -> it.deliver(4));
         x.stop(2);
-        due.isThrown("13 the receiver is stopped", WRONG_STATE, x, () -> x.deliver(1));
+        due.isThrown("13 the receiver is stopped", WRONG_STATE, x, it -> it.deliver(1));
         for (int s = 0; s < 5; s++) {
             if (s != 4) {
                 x.cable(s, 4, false);
             }
         }
-        due.isThrown("13 another piece", WRONG_STATE, x, () -> x.deliver(3));
+        due.isThrown("13 another piece", WRONG_STATE, x, it -> it.deliver(3));
         due.is("13 kind", x.deliver(2), Post.LOCK);
         due.is("13 out of the row, the answer behind the last", Sight.letters(x),
                 "0 from 0 to 1 for 5, 0 from 0 to 2 for 5, 0 from 0 to 4 for 5, "
@@ -100,7 +100,7 @@ public final class LettersTest {
     }
 
     private static void kind0Lock() {
-        NoticeStations x = new NoticeStations();
+        Stations x = new Stations();
         x.write(0, 0, 0, 0);
         x.write(1, 0, 0, 0);
         Post.deliver(x, Post.LOCK, 0, 2);
@@ -121,7 +121,7 @@ public final class LettersTest {
         Post.deliver(x, Post.LOCK, 1, 2);
         due.is("LOCK after an unlock", x.about(2, 4), 6);
 
-        NoticeStations y = Post.inDoubt(7);
+        Stations y = Post.inDoubt(7);
         y.write(3, 0, 0, 0);
         Post.deliver(y, Post.LOCK, 3, 1);
         due.is("LOCK not in doubt", Sight.about(y, 1), "5 0 0 5 -1 -1 1");
@@ -129,7 +129,7 @@ public final class LettersTest {
     }
 
     private static void kind1Grant() {
-        NoticeStations x = new NoticeStations();
+        Stations x = new Stations();
         x.write(0, 0, 0, 0);
         Post.deliver(x, Post.LOCK, 0, 1);
         x.twin(Post.find(x, Post.GRANT, 1, 0));
@@ -138,7 +138,7 @@ public final class LettersTest {
         due.is("GRANT twice is one", x.decide(0), false);
         due.is("GRANT twice is one", x.resend(0), 3);
 
-        NoticeStations y = new NoticeStations();
+        Stations y = new Stations();
         y.write(0, 0, 0, 0);
         Post.deliver(y, Post.LOCK, 0, 1);
         Post.deliver(y, Post.LOCK, 0, 2);
@@ -148,7 +148,7 @@ public final class LettersTest {
         Post.deliver(y, Post.GRANT, 2, 0);
         due.is("GRANT of another number", y.decide(0), false);
 
-        NoticeStations z = new NoticeStations();
+        Stations z = new Stations();
         z.write(0, 0, 0, 0);
         Post.grant(z, 0, 6);
         Post.deliver(z, Post.LOCK, 0, 3);
@@ -161,7 +161,7 @@ public final class LettersTest {
 
     /** A GRANT has what was stored when it was sent, not what is stored when it comes. */
     private static void kind1GrantIsAsSent() {
-        NoticeStations x = new NoticeStations();
+        Stations x = new Stations();
         x.write(4, 0, 0, 0);
         Post.deliver(x, Post.LOCK, 4, 1);
         Post.deliver(x, Post.LOCK, 4, 2);
@@ -179,8 +179,8 @@ public final class LettersTest {
     }
 
     /** Stations 1 and 2 granted write 9 of station 4, then took part in one of station 0. */
-    private static NoticeStations overtaken() {
-        NoticeStations x = new NoticeStations();
+    private static Stations overtaken() {
+        Stations x = new Stations();
         x.write(4, 0, 0, 0);
         x.twin(Post.find(x, Post.LOCK, 4, 1));
         Post.grant(x, 4, 6);
@@ -193,14 +193,14 @@ public final class LettersTest {
 
     /** A second GRANT does not change what the first one told. */
     private static void kind1FirstGrantCounts() {
-        NoticeStations x = overtaken();
+        Stations x = overtaken();
         Post.deliver(x, Post.LOCK, 4, 1);
         Post.deliver(x, Post.GRANT, 1, 4);
         due.is("GRANT 1 holds more now, but granted before", x.decide(4), true);
     }
 
     private static void kind2Prepare() {
-        NoticeStations x = new NoticeStations();
+        Stations x = new Stations();
         x.write(0, 1, 2, 3);
         Post.grant(x, 0, 6);
         x.decide(0);
@@ -219,7 +219,7 @@ public final class LettersTest {
 
     /** Station 1 has the lock again, but its book is as long as the letter's. */
     private static void kind2PrepareNotShorter() {
-        NoticeStations x = overtaken();
+        Stations x = overtaken();
         x.decide(4);
         Post.deliver(x, Post.LOCK, 4, 1);
         due.is("PREPARE it is locked", x.about(1, 4), 9);
@@ -230,7 +230,7 @@ public final class LettersTest {
 
     /** Station 1 stored the letter's book already; LOCK and PREPARE come once more. */
     private static void kind2PrepareOfWhatIsStored() {
-        NoticeStations x = new NoticeStations();
+        Stations x = new Stations();
         x.write(0, 1, 2, 3);
         x.twin(Post.find(x, Post.LOCK, 0, 1));
         Post.grant(x, 0, 6);
@@ -249,7 +249,7 @@ public final class LettersTest {
     }
 
     private static void kind3Prepared() {
-        NoticeStations x = Post.inDoubt(7);
+        Stations x = Post.inDoubt(7);
         x.twin(Post.find(x, Post.PREPARED, 1, 0));
         Post.deliver(x, Post.PREPARED, 1, 0);
         Post.deliver(x, Post.PREPARED, 1, 0);
@@ -261,7 +261,7 @@ public final class LettersTest {
                 Sight.letter(x, x.letters() - 2) + ", " + Sight.letter(x, x.letters() - 1),
                 "4 from 0 to 1 for 5, 4 from 0 to 2 for 5");
 
-        NoticeStations y = Post.inDoubt(15);
+        Stations y = Post.inDoubt(15);
         y.giveUp(0);
         Post.deliver(y, Post.PREPARED, 1, 0);
         due.is("PREPARED without an open write", Sight.about(y, 0), "5 0 1 -1 -1 -1 1");
@@ -285,31 +285,31 @@ public final class LettersTest {
     }
 
     private static void kind3PreparedWithManyLetters() {
-        NoticeStations x = Post.inDoubt(7);
+        Stations x = Post.inDoubt(7);
         Post.deliver(x, Post.PREPARED, 1, 0);
         Post.fill(x, 40);
         int last = Post.find(x, Post.PREPARED, 2, 0);
-        due.isThrown("PREPARED 41 letters", TOO_MUCH, x, () -> x.deliver(last));
+        due.isThrown("PREPARED 41 letters", TOO_MUCH, x, it -> it.deliver(last));
         x.lose(0);
         x.deliver(Post.find(x, Post.PREPARED, 2, 0));
         due.is("PREPARED 40 letters", x.letters(), 40);
         due.is("PREPARED it commits", x.count(0), 1);
 
-        NoticeStations y = Post.inDoubt(15);
+        Stations y = Post.inDoubt(15);
         Post.fill(y, 40);
         y.deliver(Post.find(y, Post.PREPARED, 1, 0));
         due.is("PREPARED not yet all, so none is sent", y.letters(), 39);
         y.deliver(Post.find(y, Post.PREPARED, 2, 0));
         Post.fill(y, 39);
         int third = Post.find(y, Post.PREPARED, 3, 0);
-        due.isThrown("PREPARED 41 letters", TOO_MUCH, y, () -> y.deliver(third));
+        due.isThrown("PREPARED 41 letters", TOO_MUCH, y, it -> it.deliver(third));
         y.cable(0, 3, false);
         y.cable(1, 3, false);
         y.cable(2, 3, false);
         y.cable(4, 3, false);
-        due.isThrown("PREPARED 41 letters, another piece", WRONG_STATE, y, () -> y.deliver(third));
+        due.isThrown("PREPARED 41 letters, another piece", WRONG_STATE, y, it -> it.deliver(third));
 
-        NoticeStations z = new NoticeStations();
+        Stations z = new Stations();
         z.write(0, 0, 0, 0);
         Post.fill(z, 40);
         due.is("one answer always has room", z.deliver(0), Post.LOCK);
@@ -317,7 +317,7 @@ public final class LettersTest {
     }
 
     private static void kind4Commit() {
-        NoticeStations x = Post.inDoubt(7);
+        Stations x = Post.inDoubt(7);
         Post.prepared(x, 0, 6);
         x.twin(Post.find(x, Post.COMMIT, 0, 1));
         due.is("COMMIT before", Sight.about(x, 1), "5 0 0 5 -1 -1 1");
@@ -338,7 +338,7 @@ public final class LettersTest {
     }
 
     private static void kind5Abort() {
-        NoticeStations x = Post.inDoubt(7);
+        Stations x = Post.inDoubt(7);
         Post.deliver(x, Post.LOCK, 0, 3);
         x.giveUp(0);
         Post.deliver(x, Post.ABORT, 0, 1);
@@ -358,7 +358,7 @@ public final class LettersTest {
     }
 
     private static void kind5AbortInDoubtOfAnother() {
-        NoticeStations x = new NoticeStations();
+        Stations x = new Stations();
         x.write(3, 0, 0, 0);
         x.giveUp(3);
         x.write(0, 0, 0, 0);
@@ -370,7 +370,7 @@ public final class LettersTest {
     }
 
     /** The answer to an ASK of one station at another: its kind, or NONE. */
-    private static int answer(NoticeStations x, int asker, int other) {
+    private static int answer(Stations x, int asker, int other) {
         Post.loseAll(x);
         x.ask(asker, other);
         x.deliver(0);
@@ -383,7 +383,7 @@ public final class LettersTest {
     }
 
     private static void kind6Ask() {
-        NoticeStations x = Post.inDoubt(15);
+        Stations x = Post.inDoubt(15);
         due.is("ASK the writer, it is open", answer(x, 1, 0), NONE);
         due.is("ASK another in doubt", answer(x, 1, 2), NONE);
         due.is("ASK one that knows nothing", answer(x, 1, 4), NONE);
@@ -399,7 +399,7 @@ public final class LettersTest {
         x.deliver(0);
         due.is("ASK and does its work", Sight.about(x, 2), "4 0 0 -1 -1 -1 1");
 
-        NoticeStations y = Post.inDoubt(7);
+        Stations y = Post.inDoubt(7);
         y.giveUp(0);
         due.is("ASK the writer, given up", answer(y, 1, 0), Post.ABORT);
         y.write(0, 0, 0, 0);
@@ -413,7 +413,7 @@ public final class LettersTest {
 
     /** Station 1 is in doubt of write 9, at place 0 of the book; others fill that place. */
     private static void kind6AskOneThatHasAsMany() {
-        NoticeStations x = new NoticeStations();
+        Stations x = new Stations();
         x.write(4, 0, 0, 0);
         Post.grant(x, 4, 14);
         x.decide(4);
@@ -436,14 +436,14 @@ public final class LettersTest {
     }
 
     private static void promise14Lose() {
-        NoticeStations x = new NoticeStations();
-        due.isThrown("14 no letter", NO_SUCH_INDEX, x, () -> x.lose(0));
+        Stations x = new Stations();
+        due.isThrown("14 no letter", NO_SUCH_INDEX, x, it -> it.lose(0));
         x.write(0, 0, 0, 0);
         x.lose(1);
         due.is("14 the others stay", Sight.letters(x),
                 "0 from 0 to 1 for 5, 0 from 0 to 3 for 5, 0 from 0 to 4 for 5");
         for (int i : new int[] {3, -1, Integer.MIN_VALUE, Integer.MAX_VALUE}) {
-            due.isThrown("14 no letter " + i, NO_SUCH_INDEX, x, () -> x.lose(i));
+            due.isThrown("14 no letter " + i, NO_SUCH_INDEX, x, it -> it.lose(i));
         }
         x.lose(2);
         x.lose(0);
@@ -454,23 +454,23 @@ public final class LettersTest {
     }
 
     private static void promise15Twin() {
-        NoticeStations x = new NoticeStations();
-        due.isThrown("15 no letter", NO_SUCH_INDEX, x, () -> x.twin(0));
+        Stations x = new Stations();
+        due.isThrown("15 no letter", NO_SUCH_INDEX, x, it -> it.twin(0));
         x.write(0, 0, 0, 0);
         x.twin(1);
         due.is("15 behind the last", Sight.letters(x), "0 from 0 to 1 for 5, "
                 + "0 from 0 to 2 for 5, 0 from 0 to 3 for 5, 0 from 0 to 4 for 5, "
                 + "0 from 0 to 2 for 5");
         for (int i : new int[] {5, -1, Integer.MIN_VALUE, Integer.MAX_VALUE}) {
-            due.isThrown("15 no letter " + i, NO_SUCH_INDEX, x, () -> x.twin(i));
+            due.isThrown("15 no letter " + i, NO_SUCH_INDEX, x, it -> it.twin(i));
         }
         Post.fill(x, 39);
         x.twin(38);
         due.is("15 forty", x.letters(), 40);
-        due.isThrown("15 forty-one", TOO_MUCH, x, () -> x.twin(0));
-        due.isThrown("15 forty-one of none", NO_SUCH_INDEX, x, () -> x.twin(40));
+        due.isThrown("15 forty-one", TOO_MUCH, x, it -> it.twin(0));
+        due.isThrown("15 forty-one of none", NO_SUCH_INDEX, x, it -> it.twin(40));
 
-        NoticeStations y = new NoticeStations();
+        Stations y = new Stations();
         y.write(0, 1, 2, 3);
         Post.grant(y, 0, 6);
         y.decide(0);
@@ -483,8 +483,8 @@ public final class LettersTest {
     }
 
     private static void promise16Letter() {
-        NoticeStations x = new NoticeStations();
-        due.isThrown("16 no letter", NO_SUCH_INDEX, x, () -> x.letter(0, 0));
+        Stations x = new Stations();
+        due.isThrown("16 no letter", NO_SUCH_INDEX, x, it -> it.letter(0, 0));
         x.write(3, 0, 0, 0);
         Post.deliver(x, Post.LOCK, 3, 4);
         due.is("16 kind", x.letter(3, 0), Post.GRANT);
@@ -494,11 +494,11 @@ public final class LettersTest {
         due.is("16 kind of another", x.letter(0, 0), Post.LOCK);
         for (int what : new int[] {-1, 4, Integer.MIN_VALUE, Integer.MAX_VALUE}) {
             due.isThrown("16 what " + what, IllegalArgumentException.class, x,
-                    () -> x.letter(0, what));
-            due.isThrown("16 what of none", NO_SUCH_INDEX, x, () -> x.letter(4, what));
+                    it -> it.letter(0, what));
+            due.isThrown("16 what of none", NO_SUCH_INDEX, x, it -> it.letter(4, what));
         }
         for (int i : new int[] {4, -1, Integer.MIN_VALUE, Integer.MAX_VALUE}) {
-            due.isThrown("16 no letter " + i, NO_SUCH_INDEX, x, () -> x.letter(i, 0));
+            due.isThrown("16 no letter " + i, NO_SUCH_INDEX, x, it -> it.letter(i, 0));
         }
     }
 

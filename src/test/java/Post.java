@@ -11,28 +11,31 @@ final class Post {
     private Post() {
     }
 
-    /** The place of the first such letter; -1 for none. */
-    static int find(NoticeStations x, int kind, int from, int to) {
-        for (int i = 0; i < x.letters(); i++) {
-            if (x.letter(i, 0) == kind && x.letter(i, 1) == from && x.letter(i, 2) == to) {
+    /** The place of the first such letter; -1 for none. It costs x no calls. */
+    static int find(Stations x, int kind, int from, int to) {
+        Stations same = x.again();
+        int letters = same.letters();
+        for (int i = 0; i < letters; i++) {
+            if (same.letter(i, 0) == kind && same.letter(i, 1) == from
+                    && same.letter(i, 2) == to) {
                 return i;
             }
         }
         return -1;
     }
 
-    static void deliver(NoticeStations x, int kind, int from, int to) {
+    static void deliver(Stations x, int kind, int from, int to) {
         x.deliver(find(x, kind, from, to));
     }
 
-    static void loseAll(NoticeStations x) {
-        while (x.letters() > 0) {
+    static void loseAll(Stations x) {
+        for (int left = x.letters(); left > 0; left--) {
             x.lose(0);
         }
     }
 
     /** The members (1 << station each) grant the open write of the writer. */
-    static void grant(NoticeStations x, int writer, int members) {
+    static void grant(Stations x, int writer, int members) {
         for (int s = 0; s < 5; s++) {
             if (s != writer && (members & 1 << s) != 0) {
                 deliver(x, LOCK, writer, s);
@@ -41,7 +44,7 @@ final class Post {
         }
     }
 
-    static void prepare(NoticeStations x, int writer, int members) {
+    static void prepare(Stations x, int writer, int members) {
         for (int s = 0; s < 5; s++) {
             if (s != writer && (members & 1 << s) != 0) {
                 deliver(x, PREPARE, writer, s);
@@ -49,7 +52,7 @@ final class Post {
         }
     }
 
-    static void prepared(NoticeStations x, int writer, int members) {
+    static void prepared(Stations x, int writer, int members) {
         for (int s = 0; s < 5; s++) {
             if (s != writer && (members & 1 << s) != 0) {
                 deliver(x, PREPARED, s, writer);
@@ -57,7 +60,7 @@ final class Post {
         }
     }
 
-    static void commit(NoticeStations x, int writer, int members) {
+    static void commit(Stations x, int writer, int members) {
         for (int s = 0; s < 5; s++) {
             if (s != writer && (members & 1 << s) != 0) {
                 deliver(x, COMMIT, writer, s);
@@ -66,7 +69,7 @@ final class Post {
     }
 
     /** All of an open write from its beginning on; other letters stay. */
-    static void carryThrough(NoticeStations x, int writer, int members) {
+    static void carryThrough(Stations x, int writer, int members) {
         grant(x, writer, members);
         x.decide(writer);
         prepare(x, writer, members);
@@ -75,26 +78,26 @@ final class Post {
     }
 
     /** The same, and no letter is left. */
-    static void finish(NoticeStations x, int writer, int members) {
+    static void finish(Stations x, int writer, int members) {
         carryThrough(x, writer, members);
         loseAll(x);
     }
 
-    static int notice(NoticeStations x, int writer, int members, int area, int from, int to) {
+    static int notice(Stations x, int writer, int members, int area, int from, int to) {
         int number = x.write(writer, area, from, to);
         finish(x, writer, members);
         return number;
     }
 
-    static int withdrawal(NoticeStations x, int writer, int members, int k) {
+    static int withdrawal(Stations x, int writer, int members, int k) {
         int number = x.withdraw(writer, k);
         finish(x, writer, members);
         return number;
     }
 
     /** An object whose station 0 wrote that many notices alone, after one with 1 and 2. */
-    static NoticeStations written(int entries) {
-        NoticeStations x = new NoticeStations();
+    static Stations written(int entries) {
+        Stations x = new Stations();
         int[] members = {7, 3, 1};
         for (int k = 0; k < entries; k++) {
             notice(x, 0, members[k < 3 ? k : 2], k % 4, k, 90);
@@ -103,8 +106,8 @@ final class Post {
     }
 
     /** An object in which each of the members but 0 is prepared for write 5 of station 0. */
-    static NoticeStations inDoubt(int members) {
-        NoticeStations x = new NoticeStations();
+    static Stations inDoubt(int members) {
+        Stations x = new Stations();
         x.write(0, 1, 2, 3);
         grant(x, 0, members);
         x.decide(0);
@@ -113,8 +116,8 @@ final class Post {
     }
 
     /** So many letters lie there then: the first one again and again. */
-    static void fill(NoticeStations x, int letters) {
-        while (x.letters() < letters) {
+    static void fill(Stations x, int letters) {
+        for (int lie = x.letters(); lie < letters; lie++) {
             x.twin(0);
         }
     }
