@@ -1,13 +1,5 @@
-import java.util.NoSuchElementException;
-
 /** Promises 17 to 21: what can be asked about the stations and their books. */
 public final class BooksTest {
-    private static final int[] NO_STATIONS = {-1, 5, Integer.MIN_VALUE, Integer.MAX_VALUE};
-    private static final Class<IndexOutOfBoundsException> NO_SUCH_INDEX =
-            IndexOutOfBoundsException.class;
-    private static final Class<IllegalArgumentException> WRONG_ARGUMENT =
-            IllegalArgumentException.class;
-
     private static final Due due = new Due("BooksTest");
 
     private static void promise17Count() {
@@ -19,8 +11,8 @@ public final class BooksTest {
         x.stop(0);
         due.is("17 of a stopped one", x.count(0), 2);
         due.is("17 full", Post.written(16).count(0), 16);
-        for (int no : NO_STATIONS) {
-            due.isThrown("17 count at " + no, NO_SUCH_INDEX, x, it -> it.count(no));
+        for (int no : Wrong.stations()) {
+            due.isThrown("17 count at " + no, Wrong.INDEX, x, it -> it.count(no));
         }
     }
 
@@ -38,12 +30,12 @@ public final class BooksTest {
         x.stop(2);
         due.is("18 of a stopped one", x.entry(2, 2, true), 5);
         for (int k : new int[] {-1, 3, 16, Integer.MIN_VALUE, Integer.MAX_VALUE}) {
-            due.isThrown("18 no entry " + k, NoSuchElementException.class, x,
+            due.isThrown("18 no entry " + k, Wrong.ELEMENT, x,
                     it -> it.entry(0, k, false));
-            due.isThrown("18 no number " + k, NoSuchElementException.class, x,
+            due.isThrown("18 no number " + k, Wrong.ELEMENT, x,
                     it -> it.entry(0, k, true));
-            for (int no : NO_STATIONS) {
-                due.isThrown("18 entry at " + no, NO_SUCH_INDEX, x, it -> it.entry(no, k, true));
+            for (int no : Wrong.stations()) {
+                due.isThrown("18 entry at " + no, Wrong.INDEX, x, it -> it.entry(no, k, true));
             }
         }
         Stations y = Post.written(16);
@@ -64,9 +56,9 @@ public final class BooksTest {
         due.is("19 locked", Sight.about(x, 3), "3 2 0 -1 14 -1 1");
         due.is("19 stopped", Sight.about(x, 0), "5 0 0 -1 -1 -1 0");
         for (int what : new int[] {-1, 7, Integer.MIN_VALUE, Integer.MAX_VALUE}) {
-            due.isThrown("19 what " + what, WRONG_ARGUMENT, x, it -> it.about(0, what));
-            for (int no : NO_STATIONS) {
-                due.isThrown("19 about " + no, NO_SUCH_INDEX, x, it -> it.about(no, what));
+            due.isThrown("19 what " + what, Wrong.ARGUMENT, x, it -> it.about(0, what));
+            for (int no : Wrong.stations()) {
+                due.isThrown("19 about " + no, Wrong.INDEX, x, it -> it.about(no, what));
             }
         }
     }
@@ -77,7 +69,7 @@ public final class BooksTest {
             due.is("20 three of five, " + mask, x.allowed(mask), Integer.bitCount(mask) >= 3);
         }
         for (int mask : new int[] {-1, 32, 63, Integer.MIN_VALUE, Integer.MAX_VALUE}) {
-            due.isThrown("20 mask " + mask, WRONG_ARGUMENT, x, it -> it.allowed(mask));
+            due.isThrown("20 mask " + mask, Wrong.ARGUMENT, x, it -> it.allowed(mask));
         }
         for (int s = 0; s < 5; s++) {
             for (int t = s + 1; t < 5; t++) {
@@ -154,8 +146,8 @@ public final class BooksTest {
         for (int area : new int[] {0, 1, -1, 4, 6, -2, Integer.MIN_VALUE, Integer.MAX_VALUE}) {
             due.is("21 area " + area, x.inForce(0, area, 20), 0);
         }
-        for (int station : NO_STATIONS) {
-            due.isThrown("21 at " + station, NO_SUCH_INDEX, x, it -> it.inForce(station, 9, -1));
+        for (int station : Wrong.stations()) {
+            due.isThrown("21 at " + station, Wrong.INDEX, x, it -> it.inForce(station, 9, -1));
         }
         Post.withdrawal(x, 1, 15, 0);
         due.is("21 withdrawn", x.inForce(0, 2, 20), 1);

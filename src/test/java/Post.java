@@ -34,6 +34,14 @@ final class Post {
         }
     }
 
+    static void loseAllBut(Stations x, int kind) {
+        for (int i = x.letters() - 1; i >= 0; i--) {
+            if (x.letter(i, 0) != kind) {
+                x.lose(i);
+            }
+        }
+    }
+
     /** The members (1 << station each) grant the open write of the writer. */
     static void grant(Stations x, int writer, int members) {
         for (int s = 0; s < 5; s++) {
@@ -112,6 +120,19 @@ final class Post {
         grant(x, 0, members);
         x.decide(0);
         prepare(x, 0, members);
+        return x;
+    }
+
+    /** Stations 1 and 2 granted write 9 of station 4, then took part in one of station 0. */
+    static Stations overtaken() {
+        Stations x = new Stations();
+        x.write(4, 0, 0, 0);
+        x.twin(find(x, LOCK, 4, 1));
+        grant(x, 4, 6);
+        x.unlock(1);
+        x.unlock(2);
+        x.write(0, 1, 1, 1);
+        carryThrough(x, 0, 6);
         return x;
     }
 

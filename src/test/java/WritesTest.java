@@ -1,18 +1,9 @@
-import java.util.NoSuchElementException;
-
-/** Promises 1 to 9: a new object, its cables, and what a station is told to do. */
+/**
+ * Promises 1 to 9: a new object, its cables, and what a station is told to do. What is refused
+ * there: RefusalsTest.
+ */
 public final class WritesTest {
     private static final int NONE = NoticeStations.NONE;
-    private static final int[] NO_STATIONS = {-1, 5, Integer.MIN_VALUE, Integer.MAX_VALUE};
-    private static final Class<IndexOutOfBoundsException> NO_SUCH_INDEX =
-            IndexOutOfBoundsException.class;
-    private static final Class<IllegalArgumentException> WRONG_ARGUMENT =
-            IllegalArgumentException.class;
-    private static final Class<IllegalStateException> WRONG_STATE = IllegalStateException.class;
-    private static final Class<NoSuchElementException> NO_SUCH_ENTRY =
-            NoSuchElementException.class;
-    private static final Class<UnsupportedOperationException> TOO_MUCH =
-            UnsupportedOperationException.class;
 
     private static final Due due = new Due("WritesTest");
 
@@ -44,15 +35,19 @@ public final class WritesTest {
         due.is("2 others are there", x.cable(1, 2, true), false);
         due.is("2 there again", x.cable(3, 1, true), true);
         due.is("2 there already", x.cable(1, 3, true), false);
-        for (int no : NO_STATIONS) {
-            due.isThrown("2 cable from " + no, NO_SUCH_INDEX, x, it -> it.cable(no, 0, false));
-            due.isThrown("2 cable to " + no, NO_SUCH_INDEX, x, it -> it.cable(0, no, false));
-            due.isThrown("2 cable in " + no, NO_SUCH_INDEX, x, it -> it.cable(no, no, false));
+        due.changesNothing("2 there already", x, it -> it.cable(1, 3, true));
+        Stations torn = x.again();
+        torn.cable(0, 4, false);
+        due.changesNothing("2 torn already", torn, it -> it.cable(4, 0, false));
+        for (int no : Wrong.stations()) {
+            due.isThrown("2 cable from " + no, Wrong.INDEX, x, it -> it.cable(no, 0, false));
+            due.isThrown("2 cable to " + no, Wrong.INDEX, x, it -> it.cable(0, no, false));
+            due.isThrown("2 cable in " + no, Wrong.INDEX, x, it -> it.cable(no, no, false));
         }
         for (int s = 0; s < 5; s++) {
             int station = s;
-            due.isThrown("2 to itself", NO_SUCH_INDEX, x, it -> it.cable(station, station, false));
-            due.isThrown("2 to itself", NO_SUCH_INDEX, x, it -> it.cable(station, station, true));
+            due.isThrown("2 to itself", Wrong.INDEX, x, it -> it.cable(station, station, false));
+            due.isThrown("2 to itself", Wrong.INDEX, x, it -> it.cable(station, station, true));
         }
         for (int s = 0; s < 5; s++) {
             for (int t = s + 1; t < 5; t++) {
@@ -69,11 +64,11 @@ public final class WritesTest {
                 x.cable(s, t, false);
             }
         }
-        due.isThrown("2 no cables", WRONG_STATE, x, it -> it.deliver(3));
+        due.isThrown("2 no cables", Wrong.STATE, x, it -> it.deliver(3));
         x.cable(0, 2, true);
         x.cable(2, 1, true);
         x.cable(1, 3, true);
-        due.isThrown("2 not as far as 4", WRONG_STATE, x, it -> it.deliver(3));
+        due.isThrown("2 not as far as 4", Wrong.STATE, x, it -> it.deliver(3));
         x.cable(3, 4, true);
         x.stop(2);
         x.stop(1);
@@ -81,7 +76,7 @@ public final class WritesTest {
         due.is("2 over all the others, stopped ones too", x.deliver(3), 0);
         due.is("2 the GRANT goes back that way", x.deliver(3), 1);
         x.cable(2, 1, false);
-        due.isThrown("2 torn in the middle", WRONG_STATE, x, it -> it.deliver(2));
+        due.isThrown("2 torn in the middle", Wrong.STATE, x, it -> it.deliver(2));
         Stations y = new Stations();
         y.write(4, 0, 0, 0);
         for (int s = 0; s < 5; s++) {
@@ -110,48 +105,9 @@ public final class WritesTest {
         due.is("3 of station 4", new Stations().write(4, 3, 0, 99), 9);
     }
 
-    private static void promise3WriteThrows() {
-        Stations x = new Stations();
-        for (int no : NO_STATIONS) {
-            due.isThrown("3 write at " + no, NO_SUCH_INDEX, x, it -> it.write(no, 9, 0, 0));
-        }
-        int[][] wrong = {{-1, 0, 0}, {4, 0, 0}, {0, -1, 0}, {0, 100, 0}, {0, 0, -1}, {0, 0, 100},
-            {Integer.MIN_VALUE, 0, 0}, {0, Integer.MAX_VALUE, 0}, {0, 0, Integer.MIN_VALUE}};
-        for (int[] w : wrong) {
-            due.isThrown("3 wrong notice", WRONG_ARGUMENT, x, it -> it.write(0, w[0], w[1], w[2]));
-        }
-        x.stop(1);
-        due.isThrown("3 stopped", WRONG_STATE, x, it -> it.write(1, 0, 0, 0));
-        due.isThrown("3 wrong and stopped", WRONG_ARGUMENT, x, it -> it.write(1, 4, 0, 0));
-        x.write(0, 0, 0, 0);
-        due.isThrown("3 an open write", WRONG_STATE, x, it -> it.write(0, 0, 0, 0));
-        Post.deliver(x, Post.LOCK, 0, 2);
-        due.isThrown("3 locked by another", WRONG_STATE, x, it -> it.write(2, 0, 0, 0));
-
-        Stations y = Post.inDoubt(7);
-        due.isThrown("3 in doubt", WRONG_STATE, y, it -> it.write(1, 0, 0, 0));
-        Post.fill(y, 36);
-        Stations z = Post.inDoubt(7);
-        Post.fill(z, 37);
-        due.is("3 just 40 letters", y.write(3, 0, 0, 0), 8);
-        due.is("3 just 40 letters", y.letters(), 40);
-        due.isThrown("3 41 letters", TOO_MUCH, z, it -> it.write(3, 0, 0, 0));
-        due.isThrown("3 in doubt, and 41 letters", WRONG_STATE, z, it -> it.write(1, 0, 0, 0));
-    }
-
-    private static void promise3FullBook() {
-        Stations x = Post.written(15);
-        due.is("3 the sixteenth", x.write(0, 0, 0, 0), 80);
-        due.is("3 is committed", x.decide(0), true);
-        due.is("3 sixteen", x.count(0), 16);
-        due.isThrown("3 seventeenth", TOO_MUCH, x, it -> it.write(0, 0, 0, 0));
-        x.stop(0);
-        due.isThrown("3 stopped and full", WRONG_STATE, x, it -> it.write(0, 0, 0, 0));
-    }
-
     private static void promise4Withdraw() {
         Stations x = new Stations();
-        due.isThrown("4 empty book", NO_SUCH_ENTRY, x, it -> it.withdraw(0, 0));
+        due.isThrown("4 empty book", Wrong.ELEMENT, x, it -> it.withdraw(0, 0));
         Post.notice(x, 0, 31, 1, 5, 9);
         Post.notice(x, 1, 31, 1, 5, 9);
         due.is("4 number", x.withdraw(3, 1), 8);
@@ -164,41 +120,12 @@ public final class WritesTest {
         due.is("4 its number", x.entry(0, 2, true), 8);
         int[] none = {-1, -2, -3, 3, 15, 16, Integer.MIN_VALUE, Integer.MAX_VALUE};
         for (int k : none) {
-            due.isThrown("4 no place " + k, NO_SUCH_ENTRY, x, it -> it.withdraw(0, k));
+            due.isThrown("4 no place " + k, Wrong.ELEMENT, x, it -> it.withdraw(0, k));
         }
-        due.isThrown("4 withdrawn already", NO_SUCH_ENTRY, x, it -> it.withdraw(0, 1));
-        due.isThrown("4 a withdrawal", NO_SUCH_ENTRY, x, it -> it.withdraw(0, 2));
+        due.isThrown("4 withdrawn already", Wrong.ELEMENT, x, it -> it.withdraw(0, 1));
+        due.isThrown("4 a withdrawal", Wrong.ELEMENT, x, it -> it.withdraw(0, 2));
         due.is("4 another book knows of no withdrawal", x.withdraw(4, 1), 9);
         due.is("4 the first one", x.withdraw(0, 0), 10);
-    }
-
-    private static void promise4WithdrawThrows() {
-        Stations x = new Stations();
-        Post.notice(x, 0, 31, 0, 0, 0);
-        for (int no : NO_STATIONS) {
-            due.isThrown("4 withdraw at " + no, NO_SUCH_INDEX, x, it -> it.withdraw(no, 9));
-        }
-        x.stop(4);
-        due.isThrown("4 stopped", WRONG_STATE, x, it -> it.withdraw(4, 0));
-        due.isThrown("4 stopped, no notice", NO_SUCH_ENTRY, x, it -> it.withdraw(4, 1));
-        x.write(1, 0, 0, 0);
-        due.isThrown("4 an open write", WRONG_STATE, x, it -> it.withdraw(1, 0));
-        Post.grant(x, 1, 15);
-        due.isThrown("4 locked by another", WRONG_STATE, x, it -> it.withdraw(2, 0));
-        x.decide(1);
-        Post.prepare(x, 1, 15);
-        due.isThrown("4 in doubt", WRONG_STATE, x, it -> it.withdraw(2, 0));
-        Post.prepared(x, 1, 15);
-        Post.commit(x, 1, 15);
-        x.start(4);
-        Post.fill(x, 37);
-        due.isThrown("4 41 letters", TOO_MUCH, x, it -> it.withdraw(4, 0));
-        due.isThrown("4 41 letters, no notice", NO_SUCH_ENTRY, x, it -> it.withdraw(4, 1));
-        x.lose(0);
-        due.is("4 40 letters", x.withdraw(4, 0), 9);
-        Stations y = Post.written(16);
-        due.isThrown("4 full book", TOO_MUCH, y, it -> it.withdraw(0, 0));
-        due.isThrown("4 full book, no notice", NO_SUCH_ENTRY, y, it -> it.withdraw(0, 16));
     }
 
     private static void promise5Decide() {
@@ -213,16 +140,16 @@ public final class WritesTest {
         due.is("5 three of five", x.decide(2), true);
         due.is("5 letters", Sight.letters(x), "2 from 2 to 3 for 7, 2 from 2 to 4 for 7");
         due.is("5 it is not in doubt", Sight.about(x, 2), "5 0 1 -1 7 7 1");
-        due.isThrown("5 it prepares already", WRONG_STATE, x, it -> it.decide(2));
+        due.isThrown("5 it prepares already", Wrong.STATE, x, it -> it.decide(2));
         Post.prepare(x, 2, 24);
         due.is("5 those are in doubt", Sight.about(x, 3), "5 0 0 7 -1 -1 1");
         Post.prepared(x, 2, 24);
         due.is("5 the new size, named one", Sight.about(x, 2), "3 2 1 -1 -1 -1 1");
         due.is("5 commits", Sight.letters(x), "4 from 2 to 3 for 7, 4 from 2 to 4 for 7");
-        due.isThrown("5 no open write", WRONG_STATE, x, it -> it.decide(2));
-        due.isThrown("5 never one", WRONG_STATE, x, it -> it.decide(0));
-        for (int no : NO_STATIONS) {
-            due.isThrown("5 decide at " + no, NO_SUCH_INDEX, x, it -> it.decide(no));
+        due.isThrown("5 no open write", Wrong.STATE, x, it -> it.decide(2));
+        due.isThrown("5 never one", Wrong.STATE, x, it -> it.decide(0));
+        for (int no : Wrong.stations()) {
+            due.isThrown("5 decide at " + no, Wrong.INDEX, x, it -> it.decide(no));
         }
         Stations y = new Stations();
         y.write(4, 0, 0, 0);
@@ -287,30 +214,6 @@ public final class WritesTest {
         due.is("5 3 was behind too", Sight.book(x, 3), " 804#5 1613#6 2422#9");
     }
 
-    private static void promise5DecideThrows() {
-        Stations x = Post.written(16);
-        x.write(4, 0, 0, 0);
-        due.is("5 may not", x.decide(4), false);
-        Post.grant(x, 4, 1);
-        due.isThrown("5 17 entries", TOO_MUCH, x, it -> it.decide(4));
-        Stations y = new Stations();
-        y.write(0, 0, 0, 0);
-        Post.grant(y, 0, 15);
-        Post.fill(y, 38);
-        due.isThrown("5 41 letters", TOO_MUCH, y, it -> it.decide(0));
-        y.lose(0);
-        due.is("5 40 letters", y.decide(0), true);
-        due.is("5 40 letters", y.letters(), 40);
-        Stations z = new Stations();
-        z.write(0, 0, 0, 0);
-        Post.fill(z, 40);
-        due.is("5 may not, with 40 letters", z.decide(0), false);
-        Stations w = Post.written(3);
-        w.write(0, 0, 0, 0);
-        Post.fill(w, 40);
-        due.is("5 alone it sends none", w.decide(0), true);
-    }
-
     private static void promise6GiveUp() {
         Stations x = new Stations();
         x.write(1, 0, 0, 0);
@@ -320,10 +223,10 @@ public final class WritesTest {
                 "5 from 1 to 0 for 6, 5 from 1 to 2 for 6, "
                         + "5 from 1 to 3 for 6, 5 from 1 to 4 for 6");
         due.is("6 the station", Sight.about(x, 1), "5 0 1 -1 -1 -1 1");
-        due.isThrown("6 not again", WRONG_STATE, x, it -> it.giveUp(1));
-        due.isThrown("6 none", WRONG_STATE, x, it -> it.giveUp(0));
-        for (int no : NO_STATIONS) {
-            due.isThrown("6 giveUp at " + no, NO_SUCH_INDEX, x, it -> it.giveUp(no));
+        due.isThrown("6 not again", Wrong.STATE, x, it -> it.giveUp(1));
+        due.isThrown("6 none", Wrong.STATE, x, it -> it.giveUp(0));
+        for (int no : Wrong.stations()) {
+            due.isThrown("6 giveUp at " + no, Wrong.INDEX, x, it -> it.giveUp(no));
         }
         Stations y = Post.inDoubt(7);
         Post.loseAll(y);
@@ -336,15 +239,15 @@ public final class WritesTest {
         Stations z = new Stations();
         z.write(3, 0, 0, 0);
         Post.fill(z, 37);
-        due.isThrown("6 41 letters", TOO_MUCH, z, it -> it.giveUp(3));
-        due.isThrown("6 41 letters, none open", WRONG_STATE, z, it -> it.giveUp(2));
+        due.isThrown("6 41 letters", Wrong.TOO_MUCH, z, it -> it.giveUp(3));
+        due.isThrown("6 41 letters, none open", Wrong.STATE, z, it -> it.giveUp(2));
         z.lose(0);
         z.giveUp(3);
         due.is("6 40 letters", z.letters(), 40);
         Stations w = new Stations();
         w.write(3, 0, 0, 0);
         w.stop(3);
-        due.isThrown("6 stopped", WRONG_STATE, w, it -> it.giveUp(3));
+        due.isThrown("6 stopped", Wrong.STATE, w, it -> it.giveUp(3));
     }
 
     private static void promise7Resend() {
@@ -367,9 +270,9 @@ public final class WritesTest {
         due.is("7 they have all that is needed", x.about(4, 3), 7);
         Post.prepared(x, 2, 24);
         due.is("7 committed", x.count(2), 1);
-        due.isThrown("7 no open write", WRONG_STATE, x, it -> it.resend(2));
-        for (int no : NO_STATIONS) {
-            due.isThrown("7 resend at " + no, NO_SUCH_INDEX, x, it -> it.resend(no));
+        due.isThrown("7 no open write", Wrong.STATE, x, it -> it.resend(2));
+        for (int no : Wrong.stations()) {
+            due.isThrown("7 resend at " + no, Wrong.INDEX, x, it -> it.resend(no));
         }
         Stations y = new Stations();
         y.write(0, 0, 0, 0);
@@ -379,8 +282,8 @@ public final class WritesTest {
         z.write(0, 0, 0, 0);
         Post.grant(z, 0, 6);
         Post.fill(z, 39);
-        due.isThrown("7 41 letters", TOO_MUCH, z, it -> it.resend(0));
-        due.isThrown("7 41 letters, none open", WRONG_STATE, z, it -> it.resend(1));
+        due.isThrown("7 41 letters", Wrong.TOO_MUCH, z, it -> it.resend(0));
+        due.isThrown("7 41 letters, none open", Wrong.STATE, z, it -> it.resend(1));
         z.lose(0);
         due.is("7 40 letters", z.resend(0), 2);
         z.lose(Post.find(z, Post.LOCK, 0, 3));
@@ -396,15 +299,15 @@ public final class WritesTest {
         due.is("8 locked", x.about(3, 4), 5);
         x.unlock(3);
         due.is("8 no lock", Sight.about(x, 3), "5 0 0 -1 -1 -1 1");
-        due.isThrown("8 none any more", WRONG_STATE, x, it -> it.unlock(3));
-        due.isThrown("8 never one", WRONG_STATE, x, it -> it.unlock(4));
-        due.isThrown("8 an open write", WRONG_STATE, x, it -> it.unlock(0));
-        for (int no : NO_STATIONS) {
-            due.isThrown("8 unlock at " + no, NO_SUCH_INDEX, x, it -> it.unlock(no));
+        due.isThrown("8 none any more", Wrong.STATE, x, it -> it.unlock(3));
+        due.isThrown("8 never one", Wrong.STATE, x, it -> it.unlock(4));
+        due.isThrown("8 an open write", Wrong.STATE, x, it -> it.unlock(0));
+        for (int no : Wrong.stations()) {
+            due.isThrown("8 unlock at " + no, Wrong.INDEX, x, it -> it.unlock(no));
         }
         Post.deliver(x, Post.LOCK, 0, 1);
         x.stop(1);
-        due.isThrown("8 stopped, so it has none", WRONG_STATE, x, it -> it.unlock(1));
+        due.isThrown("8 stopped, so it has none", Wrong.STATE, x, it -> it.unlock(1));
         due.is("8 what lies there still does", x.letters(), 4);
     }
 
@@ -415,22 +318,22 @@ public final class WritesTest {
         x.ask(1, 0);
         due.is("9 letters", Sight.letters(x), "6 from 2 to 4 for 5, 6 from 1 to 0 for 5");
         due.is("9 still in doubt", x.about(2, 3), 5);
-        due.isThrown("9 not in doubt", WRONG_STATE, x, it -> it.ask(3, 0));
-        due.isThrown("9 the writer is not", WRONG_STATE, x, it -> it.ask(0, 1));
-        due.isThrown("9 itself", NO_SUCH_INDEX, x, it -> it.ask(2, 2));
-        due.isThrown("9 itself, not in doubt", NO_SUCH_INDEX, x, it -> it.ask(3, 3));
-        for (int no : NO_STATIONS) {
-            due.isThrown("9 ask by " + no, NO_SUCH_INDEX, x, it -> it.ask(no, 0));
-            due.isThrown("9 ask at " + no, NO_SUCH_INDEX, x, it -> it.ask(2, no));
+        due.isThrown("9 not in doubt", Wrong.STATE, x, it -> it.ask(3, 0));
+        due.isThrown("9 the writer is not", Wrong.STATE, x, it -> it.ask(0, 1));
+        due.isThrown("9 itself", Wrong.INDEX, x, it -> it.ask(2, 2));
+        due.isThrown("9 itself, not in doubt", Wrong.INDEX, x, it -> it.ask(3, 3));
+        for (int no : Wrong.stations()) {
+            due.isThrown("9 ask by " + no, Wrong.INDEX, x, it -> it.ask(no, 0));
+            due.isThrown("9 ask at " + no, Wrong.INDEX, x, it -> it.ask(2, no));
         }
         x.stop(2);
-        due.isThrown("9 stopped", WRONG_STATE, x, it -> it.ask(2, 0));
+        due.isThrown("9 stopped", Wrong.STATE, x, it -> it.ask(2, 0));
         x.stop(0);
         Post.fill(x, 39);
         x.ask(1, 0);
         due.is("9 40 letters, one to a stopped station", x.letters(), 40);
-        due.isThrown("9 41 letters", TOO_MUCH, x, it -> it.ask(1, 0));
-        due.isThrown("9 41 letters, stopped", WRONG_STATE, x, it -> it.ask(2, 0));
+        due.isThrown("9 41 letters", Wrong.TOO_MUCH, x, it -> it.ask(1, 0));
+        due.isThrown("9 41 letters, stopped", Wrong.STATE, x, it -> it.ask(2, 0));
         x.lose(0);
         x.start(2);
         x.ask(2, 0);
@@ -443,14 +346,10 @@ public final class WritesTest {
         promise2Cable();
         promise2Pieces();
         promise3Write();
-        promise3WriteThrows();
-        promise3FullBook();
         promise4Withdraw();
-        promise4WithdrawThrows();
         promise5Decide();
         promise5HalfWithTheNamedOne();
         promise5WriterBehind();
-        promise5DecideThrows();
         promise6GiveUp();
         promise7Resend();
         promise8Unlock();
