@@ -38,7 +38,13 @@ public final class BooksTest {
                 due.isThrown("18 entry at " + no, Wrong.INDEX, x, it -> it.entry(no, k, true));
             }
         }
+        Stations empty = new Stations();
+        due.isThrown("18 of an empty book", Wrong.ELEMENT, empty, it -> it.entry(4, 0, false));
+        due.isThrown("18 of an empty book", Wrong.ELEMENT, empty, it -> it.entry(4, 0, true));
         Stations y = Post.written(16);
+        due.isThrown("18 behind a full book", Wrong.ELEMENT, y, it -> it.entry(0, 16, false));
+        due.isThrown("18 behind a full book", Wrong.ELEMENT, y, it -> it.entry(0, 16, true));
+        due.isThrown("18 in another's book", Wrong.ELEMENT, y, it -> it.entry(1, 2, false));
         due.is("18 the last", y.entry(0, 15, false), 3 + 4 * 15 + 400 * 90);
         due.is("18 its number", y.entry(0, 15, true), 80);
     }
@@ -124,6 +130,92 @@ public final class BooksTest {
         due.is("20 a full book does not matter", Post.written(16).allowed(1), true);
     }
 
+    /** "all are up, without lock and not in doubt": one that is not, wherever it stands. */
+    private static void promise20AllowedWithOneThatIsNot() {
+        for (int s = 0; s < 5; s++) {
+            Stations stopped = new Stations();
+            stopped.stop(s);
+            isAllowedWithout(stopped, 1 << s);
+            Stations locked = new Stations();
+            int writer = (s + 2) % 5;
+            locked.write(writer, 0, 0, 0);
+            isAllowedWithout(locked, 1 << writer);
+            Post.deliver(locked, Post.LOCK, writer, s);
+            isAllowedWithout(locked, 1 << writer | 1 << s);
+            locked.giveUp(writer);
+            isAllowedWithout(locked, 1 << s);
+            Stations inDoubt = new Stations();
+            inDoubt.write(writer, 0, 0, 0);
+            Post.grant(inDoubt, writer, 31);
+            inDoubt.decide(writer);
+            Post.deliver(inDoubt, Post.PREPARE, writer, s);
+            inDoubt.giveUp(writer);
+            for (int t = 0; t < 5; t++) {
+                if (t != s && t != writer) {
+                    Post.deliver(inDoubt, Post.ABORT, writer, t);
+                }
+            }
+            isAllowedWithout(inDoubt, 1 << s);
+            Post.deliver(inDoubt, Post.ABORT, writer, s);
+            isAllowedWithout(inDoubt, 0);
+        }
+    }
+
+    /** Books are empty, so three of five are needed, and none of the busy ones among them. */
+    private static void isAllowedWithout(Stations x, int busy) {
+        for (int mask = 0; mask < 32; mask++) {
+            due.is("20 " + mask + " without " + busy, x.allowed(mask),
+                    (mask & busy) == 0 && Integer.bitCount(mask) >= 3);
+        }
+    }
+
+    /** "False for none. IllegalArgumentException when mask is not 0 .. 31", in any state. */
+    private static void promise20AllowedOfNone() {
+        Stations x = Post.inDoubt(31);
+        Post.fill(x, 40);
+        Stations y = Post.written(16);
+        for (Stations each : new Stations[] {x, y}) {
+            due.is("20 none", each.allowed(0), false);
+            due.changesNothing("20 none", each, it -> it.allowed(0));
+            for (int s = 0; s < 5; s++) {
+                each.stop(s);
+            }
+            due.is("20 none, all stopped", each.allowed(0), false);
+            due.is("20 all, all stopped", each.allowed(31), false);
+            for (int mask : Wrong.beside(32)) {
+                due.isThrown("20 mask " + mask, Wrong.ARGUMENT, each, it -> it.allowed(mask));
+            }
+        }
+    }
+
+    /** Questions are no changes, in a state that has something of everything. */
+    private static void questionsChangeNothing() {
+        Stations x = Post.written(2);
+        x.write(1, 1, 2, 3);
+        Post.grant(x, 1, 5);
+        x.decide(1);
+        Post.deliver(x, Post.PREPARE, 1, 0);
+        x.write(4, 0, 0, 0);
+        Post.deliver(x, Post.LOCK, 4, 3);
+        x.cable(0, 1, false);
+        due.changesNothing("12", x, it -> it.letters());
+        for (int s = 0; s < 5; s++) {
+            int station = s;
+            due.changesNothing("17", x, it -> it.count(station));
+            due.changesNothing("21", x, it -> it.inForce(station, 0, 1));
+            for (int what = 0; what <= 6; what++) {
+                int asked = what;
+                due.changesNothing("19", x, it -> it.about(station, asked));
+            }
+        }
+        due.changesNothing("16", x, it -> it.letter(0, 3));
+        due.changesNothing("18", x, it -> it.entry(0, 1, true));
+        for (int mask = 0; mask < 32; mask++) {
+            int asked = mask;
+            due.changesNothing("20", x, it -> it.allowed(asked));
+        }
+    }
+
     private static void promise21InForce() {
         Stations x = new Stations();
         due.is("21 empty", x.inForce(0, 0, 0), 0);
@@ -176,8 +268,11 @@ public final class BooksTest {
         promise20AllowedOfNew();
         promise20AllowedLater();
         promise20AllowedLockedOrInDoubt();
+        promise20AllowedWithOneThatIsNot();
+        promise20AllowedOfNone();
         promise21InForce();
         promise21WithdrawnTwice();
+        questionsChangeNothing();
         due.end();
     }
 }

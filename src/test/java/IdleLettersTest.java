@@ -296,6 +296,15 @@ public final class IdleLettersTest {
         due.doesNothing("ASK, one entry fewer", x, Post.ASK, 1, 4);
     }
 
+    /** The sender's ABORT came before: the ASK tells of the book all the same. */
+    private static void askOfOneThatIsInDoubtNoMore() {
+        Stations x = Post.inDoubt(7);
+        x.ask(1, 3);
+        x.giveUp(0);
+        Post.deliver(x, Post.ABORT, 0, 1);
+        due.doesNothing("ASK, in doubt no more", x, Post.ASK, 1, 3);
+    }
+
     public static void main(String[] args) {
         lockOfALockedOne();
         lockOfAWriter();
@@ -314,6 +323,7 @@ public final class IdleLettersTest {
         abortOfTheWriteBefore();
         askOfOneThatDoesNotKnow();
         askOfOneWithOneFewer();
+        askOfOneThatIsInDoubtNoMore();
         due.end();
     }
 }

@@ -67,20 +67,17 @@ public final class KindsTest {
     /** A GRANT has what was stored when it was sent, not what is stored when it comes. */
     private static void kind1GrantIsAsSent() {
         Stations x = new Stations();
+        Post.notice(x, 0, 7, 0, 0, 0);
         x.write(4, 0, 0, 0);
         Post.deliver(x, Post.LOCK, 4, 1);
-        Post.deliver(x, Post.LOCK, 4, 2);
         x.unlock(1);
-        x.unlock(2);
         x.write(0, 1, 1, 1);
-        Post.carryThrough(x, 0, 6);
-        due.is("GRANT 1 has an entry now", x.count(1), 1);
+        Post.carryThrough(x, 0, 2);
+        due.is("GRANT 1 is one of two now", Sight.about(x, 1), "2 0 0 -1 -1 -1 1");
         Post.deliver(x, Post.GRANT, 1, 4);
-        Post.deliver(x, Post.GRANT, 2, 4);
-        due.is("GRANT three of five, as sent", x.decide(4), true);
-        Post.deliver(x, Post.PREPARE, 4, 1);
-        due.is("PREPARE without the lock", Sight.about(x, 1), "3 0 0 -1 -1 -1 1");
-        due.is("PREPARE no answer", Post.find(x, Post.PREPARED, 1, 4), -1);
+        Post.grant(x, 4, 4);
+        due.is("GRANT two of three, as sent", x.decide(4), true);
+        due.doesNothing("PREPARE of one that went on", x, Post.PREPARE, 4, 1);
     }
 
     /** A second GRANT does not change what the first one told. */
@@ -343,6 +340,31 @@ public final class KindsTest {
         due.is("ASK and no more", Sight.book(x, 1), " 0#8 1209#5");
     }
 
+    /** The ASK tells of the book that its sender was prepared for then, not of a later one. */
+    private static void kind6AskIsAsSent() {
+        Stations x = new Stations();
+        x.write(4, 0, 0, 0);
+        Post.grant(x, 4, 10);
+        x.decide(4);
+        Post.deliver(x, Post.PREPARE, 4, 1);
+        x.unlock(3);
+        x.ask(1, 2);
+        x.write(0, 1, 1, 1);
+        Post.carryThrough(x, 0, 12);
+        x.giveUp(4);
+        Post.deliver(x, Post.ABORT, 4, 1);
+        Post.loseAllBut(x, Post.ASK);
+        x.write(0, 2, 2, 2);
+        Post.grant(x, 0, 6);
+        x.decide(0);
+        Post.prepare(x, 0, 2);
+        due.is("ASK it is in doubt of another now", x.about(1, 3), 10);
+        due.is("ASK one that has as many as the first", x.count(2), 1);
+        Post.deliver(x, Post.ASK, 1, 2);
+        due.is("ASK as sent", Sight.lastLetters(x, 1), "5 from 2 to 1 for 9");
+        due.doesNothing("ASK its ABORT", x, Post.ABORT, 2, 1);
+    }
+
     /** The ASK is answered though its sender knows by then; the answer does nothing there. */
     private static void kind6AskedForNothing() {
         Stations x = Post.inDoubt(7);
@@ -411,6 +433,7 @@ public final class KindsTest {
         kind6AskOneThatHasAsMany();
         kind6AskOneThatHasMore();
         kind6AskOneThatHasItBeforeOthers();
+        kind6AskIsAsSent();
         kind6AskedForNothing();
         kind6AskEachWriter();
         kind0LockOnceMore();

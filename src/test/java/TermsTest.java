@@ -18,6 +18,11 @@ public final class TermsTest {
         due.is("the 511th call", x.write(4, 0, 0, 0), 264);
         due.is("the 512th call", x.letters(), 4);
         due.is("calls", x.calls(), Stations.MOST_CALLS);
+        Stations y = new Stations();
+        for (int n = 1; n < 512; n++) {
+            due.is("cable " + n, y.cable(0, 1, n % 2 == 0), true);
+        }
+        due.is("the 512th call", y.cable(0, 1, true), true);
     }
 
     /** "each UP (at first)", "at first all have", "at first 5 and 0", "at first 0". */
@@ -96,6 +101,34 @@ public final class TermsTest {
         due.isThrown("torn in the middle", Wrong.STATE, x, it -> it.deliver(3));
     }
 
+    /** "TO SEND one is to put it behind the last": whatever the cables, whoever is stopped. */
+    private static void toSend() {
+        Stations x = Post.inDoubt(7);
+        for (int a = 0; a < 5; a++) {
+            for (int b = a + 1; b < 5; b++) {
+                x.cable(a, b, false);
+            }
+        }
+        x.stop(2);
+        x.stop(3);
+        x.stop(4);
+        x.ask(1, 4);
+        due.is("ASK", Sight.lastLetters(x, 1), "6 from 1 to 4 for 5");
+        due.is("PREPAREs again", x.resend(0), 2);
+        due.is("PREPAREs again", Sight.lastLetters(x, 2), toOthers(Post.PREPARE, 0, 7, 5));
+        x.giveUp(0);
+        due.is("ABORTs", Sight.lastLetters(x, 4), toOthers(Post.ABORT, 0, 31, 5));
+        x.write(0, 0, 0, 0);
+        due.is("LOCKs", Sight.lastLetters(x, 4), toOthers(Post.LOCK, 0, 31, 10));
+        x.twin(0);
+        due.is("a twin", Sight.lastLetters(x, 1), "0 from 0 to 3 for 5");
+        due.is("all lie there", x.letters(), 16);
+        for (int i = 0; i < 16; i++) {
+            int each = i;
+            due.isThrown("none arrives", Wrong.STATE, x, it -> it.deliver(each));
+        }
+    }
+
     /** "if from <= day <= to, and no withdrawal of its place is in the book." */
     private static void inForce() {
         int[] days = {0, 1, 50, 98, 99};
@@ -118,6 +151,9 @@ public final class TermsTest {
         due.is("a withdrawal of the other place", x.inForce(0, 0, 50), 1);
         Post.withdrawal(x, 0, 7, 0);
         due.is("a withdrawal of each", x.inForce(0, 0, 50), 0);
+        Post.notice(x, 0, 7, 0, 99, 0);
+        due.is("from behind to: on no day", x.inForce(0, 0, 50), 0);
+        due.is("it is a notice all the same", x.withdraw(0, 4), 30);
     }
 
     private static void isInForce(Stations x, int from, int to, int day) {
@@ -298,6 +334,7 @@ public final class TermsTest {
         atFirst();
         everyPiece();
         piecesOverStoppedOnes();
+        toSend();
         inForce();
         toWrite();
         toDecide();
