@@ -23,6 +23,11 @@ public final class TermsTest {
             due.is("cable " + n, y.cable(0, 1, n % 2 == 0), true);
         }
         due.is("the 512th call", y.cable(0, 1, true), true);
+        Stations z = new Stations();
+        z.write(0, 0, 0, 0);
+        for (int n = 2; n <= 512; n++) {
+            due.is("letters, call " + n, z.letters(), 4);
+        }
     }
 
     /** "each UP (at first)", "at first all have", "at first 5 and 0", "at first 0". */
