@@ -450,12 +450,12 @@ public final class NoticeStations {
     }
 
     private void takePrepare(Letter letter, Station receiver) {
-        if (receiver.lock == letter.number && letter.standing.goesOnFrom(receiver.stored)) {
+        if (receiver.lock == letter.number && letter.goesOnFrom(receiver.stored)) {
             receiver.lock = NONE;
             receiver.preparedNumber = letter.number;
             receiver.preparedStanding = letter.standing;
         }
-        if (receiver.preparedNumber == letter.number) {
+        if (receiver.isPreparedFor(letter.number)) {
             sendBack(PREPARED, letter, null);
         }
     }
@@ -469,14 +469,14 @@ public final class NoticeStations {
     }
 
     private void takeCommit(Letter letter, Station receiver) {
-        if (receiver.preparedNumber == letter.number) {
+        if (receiver.isPreparedFor(letter.number)) {
             receiver.stored = receiver.preparedStanding;
             receiver.endDoubt();
         }
     }
 
     private void takeAbort(Letter letter, Station receiver) {
-        if (receiver.preparedNumber == letter.number) {
+        if (receiver.isPreparedFor(letter.number)) {
             receiver.endDoubt();
         }
         if (receiver.lock == letter.number && receiver.open == null) {
@@ -488,7 +488,7 @@ public final class NoticeStations {
         if (receiver.stored.hasNumber(letter.number)) {
             sendBack(COMMIT, letter, null);
         } else if (receiver.hasEndedWrite(letter.number)
-                || receiver.stored.length() >= letter.standing.length()) {
+                || receiver.stored.length() >= letter.bookLength()) {
             sendBack(ABORT, letter, null);
         }
     }
@@ -566,7 +566,7 @@ public final class NoticeStations {
         private final int from;
         private final int to;
         private final int number;
-        /** Of a GRANT and a PREPARE what they carry, of an ASK what its sender is prepared for. */
+        /** What a GRANT or PREPARE carries, or an ASK's sender is prepared for; otherwise null. */
         private final Standing standing;
 
         private Letter(int kind, int from, int to, int number, Standing standing) {
@@ -575,6 +575,15 @@ public final class NoticeStations {
             this.to = to;
             this.number = number;
             this.standing = standing;
+        }
+
+        /** Whether a stored book is the beginning of the letter's, and shorter. */
+        private boolean goesOnFrom(Standing stored) {
+            return standing != null && standing.goesOnFrom(stored);
+        }
+
+        private int bookLength() {
+            return standing == null ? 0 : standing.length();
         }
     }
 
@@ -657,7 +666,11 @@ public final class NoticeStations {
         }
 
         private boolean isInDoubt() {
-            return preparedNumber != NONE;
+            return preparedStanding != null;
+        }
+
+        private boolean isPreparedFor(int number) {
+            return isInDoubt() && preparedNumber == number;
         }
 
         private boolean isFree() {
